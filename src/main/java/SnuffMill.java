@@ -807,9 +807,9 @@ public final class SnuffMill {
 
         /** Which of the signs stands next, and is taken; NONE, taking nothing. */
         int takeSign(String signs) {
-            int next = nextByte();
-            for (int i = 0; i < signs.length(); i++) {
-                if (next == signs.charAt(i)) {
+            int from = nextPlace();
+            for (int i = 0; i < signs.length() && from < end; i++) {
+                if (bytes[from] == signs.charAt(i)) {
                     at++;
                     return i;
                 }
@@ -1091,21 +1091,13 @@ public final class SnuffMill {
                 readSum(text, open + 1);
                 text.needSign(")");
             } else {
-                readPair(text, open + 1);
+                text.needSign("[");
+                readSum(text, open + 1);
+                text.needSign(",");
+                readSum(text, open + 1);
+                text.needSign("]");
                 add(LEAST + word - NAMES);
             }
-        }
-
-        private void readPair(Tape text, int open) {
-            text.needSign("[");
-            if (text.isSound()) {
-                readSum(text, open);
-            }
-            text.needSign(",");
-            if (text.isSound()) {
-                readSum(text, open);
-            }
-            text.needSign("]");
         }
 
         private void add(int value) {

@@ -48,6 +48,12 @@ public final class PromiseTest {
         yearAndSpan();
         imageAndRestore();
         statusAndCount();
+        manyMills();
+        textsEndAtTheirLength();
+        longWorks();
+        oneGram();
+        manyGrindings();
+        worksOfImages();
         Bench.end();
     }
 
@@ -286,6 +292,12 @@ public final class PromiseTest {
         faulty('w', "grind 0 4;", -8, 8);
         faulty('w', "sift 2 0 1 2;", -8, 5);
         faulty('w', "sift 1 0 1 4;", -8, 11);
+        faulty('w', "sift 1 4 0 1;", -8, 7);
+        faulty('w', "sift 1 0 4 1;", -8, 9);
+        faulty('w', "pour 0 4;", -8, 7);
+        faulty('w', "scoop 4 0 1;", -8, 6);
+        faulty('w', "scoop 0 4 1;", -8, 8);
+        sound('w', "sift 1 1 1 3;pour 3 3;scoop 3 3 999;", 0);
         faulty('w', "pour 0 1 2;", -9, 9);
         faulty('w', "pour 4 0;", -8, 5);
         faulty('w', "scoop 0 1 0;", -8, 10);
@@ -1171,5 +1183,145 @@ public final class PromiseTest {
         due("count(0)", x.count(0), 2);
         due("count(1)", x.count(1), 20);
         due("count(2)", x.count(2), 1);
+    }
+
+    // ---- what shows only behind several calls, or at a bound ----
+
+    private static void manyMills() {
+        SnuffMill x = Bench.of(MILL);
+        Bench.law(x, "7");
+        Bench.stack(x, "0;");
+        Bench.book(x, "0 3;");
+        Bench.mill(x, "jar 1 1 1 1;");
+        Bench.mill(x, "jar 0 0 0 60;sieve 2;");
+        int[] want = {1, 0, 1, 5, 0, 60, 0, 0, 0, 0, 0, 0, 0};
+        for (int what = 0; what < want.length; what++) {
+            due("third mill: told(" + what + ")", x.told(what), want[what]);
+        }
+        due("no LAW of the first", x.sneeze(0), 0);
+        due("no BOOK of the first", x.fits(0), 1);
+        due("no BOOK of the first", x.look(0), 0);
+        Bench.mill(x, "jar 9 9 9 9;sieve 0;sieve 1;sieve");
+        Bench.mill(x, "jar 9 0 0 0;");
+        due("nothing of one with a FAULT", x.told(0), 1);
+        due("nothing of one with a FAULT", x.told(2), 0);
+        Bench.jarDue("the latest", x, 0, 9, 0, 0, 0, 0);
+    }
+
+    /** What stands on the TAPE behind the first n bytes is no part of the text. */
+    private static void textsEndAtTheirLength() {
+        SnuffMill x = mended();
+        Bench.put(x, "dust 12;");
+        due("a number cut", x.mill(6), -9);
+        due("a number cut", x.fault(), 6);
+        Bench.put(x, "dust    5;");
+        due("blanks cut", x.mill(5), -9);
+        due("blanks cut", x.fault(), 5);
+        Bench.put(x, "day;");
+        due("a word cut", x.work(2), -9);
+        due("a word cut", x.fault(), 0);
+        Bench.put(x, "day;");
+        due("a word at the end", x.work(3), -9);
+        due("a word at the end", x.fault(), 3);
+        Bench.put(x, "100");
+        due("a LAW cut", x.law(2), 1);
+        due("a LAW cut", x.sneeze(0), 10);
+        Bench.put(x, "fine+age");
+        due("a LAW cut", x.law(4), 1);
+        due("a LAW cut", x.sneeze(2), 5);
+        Bench.put(x, "0;1;");
+        due("a STACK cut", x.stack(2), 1);
+        Bench.put(x, "0 1;1 1;");
+        due("a BOOK cut", x.book(4), 1);
+    }
+
+    private static void longWorks() {
+        SnuffMill x = mended();
+        due("37 STEPS in 150 bytes", Bench.work(x, "day;".repeat(37)), 37);
+        due("36 in an again", Bench.work(x, "again1[" + "day;".repeat(35) + "];"), 35);
+        due("six open", Bench.work(x, "again 2[".repeat(6) + "day;" + "];".repeat(6)), 64);
+        due("DAY", x.told(4), 37 + 35 + 64);
+        due("a long LAW", Bench.law(x, "1+".repeat(74) + "1"), 1);
+        due("a long LAW", x.sneeze(0), 75);
+        due("a long LAW", Bench.law(x, "1" + "*1".repeat(69) + "+((((4))))"), 1);
+        due("a long LAW", x.sneeze(0), 5);
+    }
+
+    private static void oneGram() {
+        SnuffMill x = Bench.of("jar 0 0 0 0;jar 0 1 0 0;jar 1 0 0 0;sieve 0;");
+        due("sharpest", x.sharpest(0), 2);
+        due("sharpest", x.sharpest(1), 45);
+        due("like", x.like(0), 1);
+        due("FINE", x.jar(2, 6), 1000);
+        due("passes", x.passes(0), 4);
+        due("fits", x.fits(0), 2);
+        Bench.book(x, "0 1;");
+        due("fits", x.fits(1), 2);
+        due("one pair is left", x.look(1), 1);
+        Bench.book(x, "0 4;");
+        due("a line of GRAIN 0 alone", x.fits(0), 0);
+        due("pour", Bench.work(x, "day;pour 2 1;"), 2);
+        Bench.jarDue("pour", x, 1, 1, 1, 0, 0, 1);
+        Bench.jarDue("pour", x, 2, 0, 0, 0, 0, 0);
+        Bench.law(x, "50");
+        due("sell", Bench.work(x, "sell 1;day;pour 2 1;"), 2);
+        Bench.jarDue("0 old behind a sale", x, 1, 0, 0, 0, 0, 0);
+        SnuffMill y = Bench.of("jar 110 0 0 0;");
+        due("worth: GRAMS by 10", y.worth(), 11);
+        Bench.work(y, "day;sell 0;");
+        due("MONEY: GRAMS by 10", y.told(7), 11);
+        due("nothing made in it", y.span(1, 10, 0, 48, 1, 0), 0);
+        due("nothing made in it", y.span(1, 10, 0, 48, 0, 0), 0);
+        due("empty by all", y.span(1, 10, 0, 48, 2, 0), 10);
+    }
+
+    private static void manyGrindings() {
+        String husks = "jar 0 0 0 999;".repeat(5) + "stone 1 1 1;";
+        String together = "pour 1 0;pour 2 0;pour 3 0;pour 4 0;";
+        SnuffMill x = Bench.of(husks + "dust 0;");
+        Bench.work(x, together);
+        due("99 grindings", x.milled(0, 0, 994), 99);
+        due("98 are enough", x.milled(0, 0, 993) <= 98 ? 1 : 0, 1);
+        SnuffMill y = Bench.of("jar 0 0 0 999;".repeat(6) + "stone 1 1 1;dust 1;");
+        Bench.work(y, together + "pour 5 0;");
+        due("100 are too many", y.milled(0, 0, 990), -1);
+        Bench.work(y, "grind 0 0;");
+        due("one less", y.milled(0, 0, 990), 99);
+    }
+
+    private static void worksOfImages() {
+        SnuffMill x = mended();
+        Bench.work(x, "day;");
+        Bench.work(x, "day;day;");
+        x.image();
+        x.undo();
+        x.undo();
+        Bench.work(x, "tear 0;");
+        Bench.work(x, "tear 1;");
+        Bench.work(x, "pour 1 1;");
+        due("REFUSED", x.told(10), 1);
+        due("restore", x.restore(), 0);
+        due("0 behind restore()", x.told(10), 0);
+        due("DAY", x.told(4), 3);
+        due("its own WORKS", x.undo(), 1);
+        due("DAY", x.told(4), 1);
+        due("whole", x.told(9), 0);
+        due("its own WORKS", x.undo(), 0);
+        due("DAY", x.told(4), 0);
+        SnuffMill y = mended();
+        for (int i = 1; i <= 16; i++) {
+            Bench.work(y, "day;");
+            if (i == 14 || i == 15) {
+                y.image();
+            }
+        }
+        y.image();
+        for (int i = 16; i >= 14; i--) {
+            due("IMAGE of " + i + " WORKS", y.restore(), i - 14);
+            for (int left = i - 1; left >= 0; left--) {
+                due("undo", y.undo(), left);
+                due("DAY", y.told(4), left);
+            }
+        }
     }
 }
