@@ -54,6 +54,7 @@ public final class PromiseTest {
         oneGram();
         manyGrindings();
         worksOfImages();
+        sixJars();
         Bench.end();
     }
 
@@ -176,6 +177,9 @@ public final class PromiseTest {
         faulty('m', "jars 0 0 0 0;", -9, 0);
         faulty('m', "  ja r;", -9, 2);
         faulty('m', "Jar 0 0 0 0;", -9, 0);
+        faulty('m', "car 0 0 0 0;", -9, 0);
+        faulty('m', "jarz 0 0 0 0;", -9, 0);
+        faulty('m', "jar{0 0 0 0;", -9, 3);
         faulty('m', "dust -1;", -9, 5);
         faulty('m', "dust 1;;", -9, 7);
         faulty('m', "7;", -9, 0);
@@ -260,6 +264,9 @@ public final class PromiseTest {
         sound('l', "(((least[most[(1),(2)],3])))", 1);
         faulty('l', "(((least[most[( least", -7, 16);
         faulty('l', "(((((( most", -7, 7);
+        sound('l', "((((least[1,(2)]))))", 1);
+        faulty('l', "(((((least[1,(2)])))))", -7, 13);
+        faulty('l', "(((((least[(1),2])))))", -7, 11);
         faulty('l', "(((((( mos", -9, 7);
         sound('l', "(1)+(2)+(3)+(4)+(5)+(6)+(7)+(8)", 1);
         sound('l', "(((((1)))))*((((((2))))))", 1);
@@ -1226,6 +1233,9 @@ public final class PromiseTest {
         Bench.put(x, "100");
         due("a LAW cut", x.law(2), 1);
         due("a LAW cut", x.sneeze(0), 10);
+        Bench.put(x, "1+2");
+        due("a LAW cut ahead of a number", x.law(2), -9);
+        due("a LAW cut ahead of a number", x.fault(), 2);
         Bench.put(x, "fine+age");
         due("a LAW cut", x.law(4), 1);
         due("a LAW cut", x.sneeze(2), 5);
@@ -1323,5 +1333,33 @@ public final class PromiseTest {
                 due("DAY", y.told(4), left);
             }
         }
+    }
+
+    private static void sixJars() {
+        SnuffMill x = Bench.of("jar 90 0 0 0;jar 0 90 0 0;jar 0 0 90 0;jar 0 0 0 90;jar 0 0 0 90;jar 90 0 0 9;sieve 0;stone 1 1 1;");
+        Bench.work(x, "again 30[day;];");
+        due("told(5)", x.told(5), 549);
+        due("told(8)", x.told(8), 0);
+        due("sharpest(0)", x.sharpest(0), 0);
+        due("ripe()", x.ripe(), 33);
+        due("worth()", x.worth(), 18);
+        due("even()", x.even(), 31);
+        due("oldest(1)", x.oldest(1), 30);
+        due("amount(0, 0)", x.amount(0, 0), 180);
+        due("amount(3, 1)", x.amount(3, 1), 3);
+        due("like(5)", x.like(5), 0);
+        due("passes(0)", x.passes(0), 1);
+        due("through(0, 0)", x.through(0, 0), 180);
+        due("through(0, 1)", x.through(0, 1), 369);
+        due("fits(0)", x.fits(0), 6);
+        due("look(0)", x.look(0), 0);
+        due("look(1)", x.look(1), 4);
+        due("halves(63, 0)", x.halves(63, 0), 9);
+        due("halves(63, 1)", x.halves(63, 1), 7);
+        due("box(63, 189, 2)", x.box(63, 189, 2), 33);
+        due("shelf(5, 63, 549)", x.shelf(5, 63, 549), 99);
+        due("shelf(5, 63, 300)", x.shelf(5, 63, 300), 50);
+        Bench.missing("sneeze(6)", () -> x.sneeze(6));
+        Bench.wrong("span, JAR 6", () -> x.span(3, 10, 16, 48, 2, 6));
     }
 }
